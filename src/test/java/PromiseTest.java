@@ -169,6 +169,10 @@ public final class PromiseTest {
         faultOf("p10,p15,p10,p10;", 16);
         faultOf("p10,s15,b20,m35;123456", 22);
         faultOf("p10,s15,b20,m35;1234567", 22);
+        faultOf("p:0", 1);
+        faultOf("p1:", 2);
+        faultOf("p10,p15;:", 8);
+        faultOf("p10,p15;/", 8);
         faultOf("q10,p15;9", 0);
         faultOf("p10,q15;9;", 4);
     }
@@ -309,8 +313,8 @@ public final class PromiseTest {
     }
 
     private static void seatOf(GrudgeRennet x, int person, int place, int sets) {
-        due.is(6, "person(" + person + ", 5)", x.person(person, 5), place);
         due.is(6, "person(" + person + ", 6)", x.person(person, 6), sets);
+        due.is(6, "person(" + person + ", 5)", x.person(person, 5), place);
     }
 
     private static void personSeat() {
@@ -454,6 +458,15 @@ public final class PromiseTest {
         x.pour(2, 0);
         due.is(8, "pail(0, 4) with a drop there", x.pail(0, 4), 2);
         due.is(8, "pail(1, 4) with a drop by", x.pail(1, 4), 1 + 8);
+        x = Due.in("p30,p30;31");
+        kept(x, 2, 2);
+        x.slight(1, 2);
+        x.slight(1, 2);
+        due.is(8, "pail(0, 4), 1 lacking", x.pail(0, 4), 4);
+        due.is(8, "pail(1, 4), 1 lacking", x.pail(1, 4), 4);
+        x.slight(1, 2);
+        due.is(8, "pail(0, 4), just enough", x.pail(0, 4), 0);
+        due.is(8, "pail(1, 4), just enough", x.pail(1, 4), 0);
         x = Due.in("p50,p50;99");
         kept(x, 0, 2);
         kept(x, 3, 2);
@@ -640,6 +653,10 @@ public final class PromiseTest {
         for (int place = 0; place < 6; place++) {
             due.is(15, "force(" + place + ") with a drop", x.force(place), poured[place]);
         }
+        x = Due.in("p30,p33;11");
+        x.slight(1, 2);
+        due.is(15, "force(3) of a grudge of 1", x.force(3), 1);
+        due.is(15, "force(2) of a grudge of 1", x.force(2), 0);
         due.is(15, "force(6)", x.force(6), UNKNOWN);
         due.is(15, "force(-1)", x.force(-1), UNKNOWN);
         due.is(15, "force(MIN)", x.force(MIN), UNKNOWN);
@@ -665,6 +682,11 @@ public final class PromiseTest {
         due.is(16, "count(5)", x.count(5), 2);
         x.night();
         due.is(16, "a bottle over night", x.bottle(0), 7);
+        x = Due.in("p30,p90;44");
+        kept(x, 1, 2);
+        x.slight(1, 0);
+        due.is(16, "keep(1, 1), 1 in it", x.keep(1, 1), STATE);
+        due.is(16, "count(5) with 1 in it", x.count(5), 1);
     }
 
     private static void pour() {
@@ -800,6 +822,14 @@ public final class PromiseTest {
         x.pour(0, 0);
         // The drop sets both on the first day; then there is none.
         weekIs(x, 1, 2, NONE, NONE, NONE);
+        x = Due.in("p90,p15;99");
+        x.slight(0, 1);
+        x.slight(0, 1);
+        x.keep(0, 0);
+        x.pour(0, 0);
+        // The drop of 20 sets both on the first day; a chair then leaves 3, with a hem 13 on the second, 6 left.
+        weekIs(x, 2, 4, 0, 1, NONE);
+        weekIs(x, 3, 6, 0, 1, 0);
         x = Due.in("b50,p55;65");
         // The brooder's 6 reaches 4 at the next place: a slight more is needed there, on the second day.
         weekIs(x, 2, 3, 1, 0, NONE);
@@ -901,6 +931,15 @@ public final class PromiseTest {
         x.slight(1, 1);
         due.is(25, "weeks(1, 0, 1) from grudges", x.weeks(1, 0, 1), 5);
         due.is(25, "drops stay", x.count(6), 1);
+        x = Due.in("p50,b51;49");
+        kept(x, 0, 1, 1);
+        x.pour(0, 0);
+        // Of seed 3: the second one, by nothing; of seed 5: the second one, by a hem.
+        due.is(25, "weeks(1, 3, 0)", x.weeks(1, 3, 0), 0);
+        due.is(25, "weeks(1, 3, 1)", x.weeks(1, 3, 1), 0);
+        due.is(25, "weeks(1, 3, 2)", x.weeks(1, 3, 2), 465823161);
+        due.is(25, "weeks(1, 5, 0)", x.weeks(1, 5, 0), 1);
+        due.is(25, "weeks(1, 5, 1)", x.weeks(1, 5, 1), 6);
         int[] days = {0, 61, -1, MIN, MAX};
         for (int d : days) {
             due.is(25, "weeks(" + d + ", 0, 0)", x.weeks(d, 0, 0), OUTSIDE);
