@@ -149,46 +149,12 @@ public final class ModelTest {
         }
         calls++;
         told.append(name).append('(').append(a).append(", ").append(b).append(", ").append(c).append(") ");
-        long got = ofClass(name, a, b, c);
+        long got = Calls.make(x, name, a, b, c);
         long want = ofModel(name, a, b, c);
         if (got != want) {
             wrong++;
             System.out.println("answered " + got + ", due is " + want + ", at the end of: " + told);
         }
-    }
-
-    private long ofClass(String name, int a, int b, int c) {
-        return switch (name) {
-            case "letter" -> x.letter(a);
-            case "blank" -> x.blank();
-            case "fault" -> x.fault();
-            case "valley" -> x.valley();
-            case "person" -> x.person(a, b);
-            case "as" -> x.as(a, b);
-            case "pail" -> x.pail(a, b);
-            case "slight" -> x.slight(a, b);
-            case "soothe" -> x.soothe(a);
-            case "sit" -> x.sit(a, b);
-            case "night" -> x.night();
-            case "curdle" -> x.curdle();
-            case "fresh" -> x.fresh(a);
-            case "force" -> x.force(a);
-            case "keep" -> x.keep(a, b);
-            case "pour" -> x.pour(a, b);
-            case "bottle" -> x.bottle(a);
-            case "would" -> x.would();
-            case "few" -> x.few(a, b);
-            case "week" -> x.week(a, b);
-            case "who" -> x.who(a);
-            case "see" -> x.see(a, b, c);
-            case "forget" -> x.forget();
-            case "weeks" -> x.weeks(a, b, c);
-            case "image" -> x.image();
-            case "restore" -> x.restore();
-            case "count" -> x.count(a);
-            case "digest" -> x.digest();
-            default -> throw new IllegalStateException(name);
-        };
     }
 
     private long ofModel(String name, int a, int b, int c) {
