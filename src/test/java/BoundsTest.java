@@ -418,6 +418,7 @@ public final class BoundsTest {
         due.is("both", x.keep(0, 0), STATE);
         due.is("he has none", x.keep(1, 0), STATE);
         x.slight(0, 2);
+        due.is("there is 1 in it", x.keep(0, 0), STATE);
         due.is("it is not empty", x.keep(3, 0), STATE);
         due.is("it stays", x.bottle(3), 99);
         due.is("his stays", x.person(0, 3), 1);

@@ -28,6 +28,7 @@ public final class TermsBoundsTest {
         bottles();
         slightNumbers();
         allFresh();
+        drops();
         few();
         fewFirst();
         week();
@@ -50,6 +51,12 @@ public final class TermsBoundsTest {
             all[i] = i + 1;
         }
         return all;
+    }
+
+    private static GrudgeRennet in(String text, String steps) {
+        GrudgeRennet x = Due.in(text);
+        Calls.run(x, steps);
+        return x;
     }
 
     private static int faultOf(String text) {
@@ -382,12 +389,31 @@ public final class TermsBoundsTest {
     }
 
     private static void fewIs(String text, String steps, int pails, int... want) {
-        GrudgeRennet x = Due.in(text);
-        Calls.run(x, steps);
+        GrudgeRennet x = in(text, steps);
         int[] whats = {0, 10, 11, 12};
         for (int i = 0; i < 4; i++) {
             due.is("few(" + pails + ", " + whats[i] + ") in " + text + " " + steps, x.few(pails, whats[i]), want[i]);
         }
+    }
+
+    private static void drops() {
+        due.says(TERMS, "What would SET is all in which milk would SET if it was time to CURDLE");
+        // A drop of 6 at 2: 2, 4, 6 of 4, 9, 9; a chair of the first one adds 4, 2, 0; thanks of his 2, 0, 0.
+        String poured = "slight 0 1; keep 0 0; pour 0 2";
+        GrudgeRennet x = in("p50,p55;499", poured);
+        due.is("would()", x.would(), 0);
+        due.is("who(1)", x.who(1), 7);
+        due.is("who(0)", x.who(0), 56);
+        due.is("odds of pail 0", x.pail(0, 6), 2);
+        due.is("few(1, 10)", x.few(1, 10), 0);
+        due.is("few(4, 0)", x.few(4, 0), 2);
+        due.is("week(1, 10)", x.week(1, 10), 0);
+        x.slight(1, 0);
+        due.is("SEAT beside the drop", x.person(1, 5), 0);
+        due.is("how many by it", x.person(1, 6), 1);
+        x = in("p50,p55;999", poured + "; slight 1 0");
+        due.is("SEAT at the drop", x.person(1, 5), 2);
+        due.is("how many by it", x.person(1, 6), 1);
     }
 
     private static void few() {
@@ -421,8 +447,7 @@ public final class TermsBoundsTest {
     }
 
     private static void weekIs(String text, String steps, int days, int... want) {
-        GrudgeRennet x = Due.in(text);
-        Calls.run(x, steps);
+        GrudgeRennet x = in(text, steps);
         int[] whats = {0, 10, 11, 12};
         for (int i = 0; i < 4; i++) {
             due.is("week(" + days + ", " + whats[i] + ") in " + text + " " + steps, x.week(days, whats[i]), want[i]);
@@ -462,10 +487,10 @@ public final class TermsBoundsTest {
     }
 
     private static void seatIs(String text, String steps, int person, int place, int howMany) {
-        GrudgeRennet x = Due.in(text);
-        Calls.run(x, steps);
+        GrudgeRennet x = in(text, steps);
+        // How many goes ahead, so that it is told without the other.
+        due.is("how many by SEAT of " + person + " in " + text + " " + steps, x.person(person, 6), howMany);
         due.is("SEAT of " + person + " in " + text + " " + steps, x.person(person, 5), place);
-        due.is("how many by it", x.person(person, 6), howMany);
     }
 
     private static void seat() {
@@ -481,8 +506,7 @@ public final class TermsBoundsTest {
     }
 
     private static int pourOf(String text, String steps, int pail) {
-        GrudgeRennet x = Due.in(text);
-        Calls.run(x, steps);
+        GrudgeRennet x = in(text, steps);
         return x.pail(pail, 4);
     }
 
@@ -518,8 +542,7 @@ public final class TermsBoundsTest {
     }
 
     private static void oddsOf(String text, String steps, int pail, int hits, int all) {
-        GrudgeRennet x = Due.in(text);
-        Calls.run(x, steps);
+        GrudgeRennet x = in(text, steps);
         due.is("pail(" + pail + ", 5) in " + text + " " + steps, x.pail(pail, 5), hits);
         due.is("pail(" + pail + ", 6) in " + text + " " + steps, x.pail(pail, 6), all);
     }
@@ -613,19 +636,19 @@ public final class TermsBoundsTest {
 
     private static void weeks() {
         due.says(TERMS, "its rest by 2 to the 31; then that by 65536 (rounded down), its rest.");
-        GrudgeRennet x = Due.in("p50,p51,p52;42");
+        GrudgeRennet x = Due.in("p50,p91,b32;42");
         due.is("the seed of 0", x.weeks(1, 0, 2), 1406932606);
         // 1103515245 * (2^31 - 1) + 12345 is, by 2^31, 12345 - 1103515245 + 2^31: 1043980748; then once more.
         long once = 2147483648L - 1103515245L + 12345L;
         long twice = (once * 1103515245L + 12345L) % 2147483648L;
         due.is("the seed of the greatest", x.weeks(1, Integer.MAX_VALUE, 2), twice);
         due.says(TERMS, "on each one by a DRAW of how many there are is SLIGHTED by a DRAW of 4 (3: by nothing);");
-        int[] counted = new int[4];
-        for (int seed = 0; seed < 100; seed++) {
-            counted[wayOf(x, seed)]++;
+        boolean[] came = new boolean[12];
+        for (int seed = 0; seed < 200; seed++) {
+            came[slightOf(x, seed)] = true;
         }
-        for (int way = 0; way < 4; way++) {
-            due.is("seeds that came by " + way, counted[way] > 0 ? 1 : 0, 1);
+        for (int way = 0; way < 12; way++) {
+            due.is("a seed that came by " + way, came[way] ? 1 : 0, 1);
         }
         due.says(TERMS, "then it is counted what would SET (without any drops), then there is a NIGHT");
         x = Due.in("b90,b90;99");
@@ -636,21 +659,23 @@ public final class TermsBoundsTest {
         due.is("all on each day", x.weeks(60, 7, 0), 120);
     }
 
-    /** How one is slighted on the day, checked by all grudges after its night. */
-    private static int wayOf(GrudgeRennet x, int seed) {
-        long first = (1103515245L * seed + 12345L) % 2147483648L;
-        long second = (1103515245L * first + 12345L) % 2147483648L;
-        int how = (int) (second / 65536 % 4);
-        int[] left = {2, 3, 1, 0};
-        due.is("weeks(1, " + seed + ", 1)", x.weeks(1, seed, 1), left[how]);
-        return how;
+    private static long next(long seed) {
+        return (1103515245L * seed + 12345L) % 2147483648L;
+    }
+
+    /** Who is slighted on the first day and how, told by what is left of it after the night. */
+    private static int slightOf(GrudgeRennet x, int seed) {
+        int person = (int) (next(seed) / 65536 % 3);
+        int how = (int) (next(next(seed)) / 65536 % 4);
+        // Half of 4, 6, 2; half of 7, 10, 3; and a brooder's 2, 3, 1.
+        int[][] left = {{2, 3, 1, 0}, {3, 5, 1, 0}, {2, 3, 1, 0}};
+        due.is("weeks(1, " + seed + ", 1)", x.weeks(1, seed, 1), left[person][how]);
+        return person * 4 + how;
     }
 
     private static int seedOfNothing(int people) {
         for (int seed = 0; seed < 1000; seed++) {
-            long first = (1103515245L * seed + 12345L) % 2147483648L;
-            long second = (1103515245L * first + 12345L) % 2147483648L;
-            if (second / 65536 % 4 == 3 && first / 65536 % people == 0) {
+            if (next(next(seed)) / 65536 % 4 == 3 && next(seed) / 65536 % people == 0) {
                 return seed;
             }
         }
@@ -660,8 +685,9 @@ public final class TermsBoundsTest {
     private static void image() {
         due.says(TERMS, "An IMAGE keeps GRUDGES, PLACES, what is SET, BOTTLES, what is POURED, NIGHTS, SLIGHTS, "
             + "how much SET, SEEN.");
-        String[] changes = {"slight 0 1", "soothe 1", "sit 0 5", "night", "curdle", "fresh 0", "keep 3 1", "pour 2 5",
-            "see 0 2 2", "forget", "forget; see 1 2 2"};
+        String[] changes = {"slight 0 1", "soothe 1", "sit 0 5", "night", "curdle", "slight 0 1; fresh 0; curdle",
+            "fresh 0", "keep 3 1", "pour 2 5", "curdle; pour 2 5", "see 0 2 2", "forget", "forget; see 1 2 2",
+            "forget; see 0 2 2", "forget; see 0 0 3"};
         for (String change : changes) {
             GrudgeRennet x = Due.in("p50,b53;2929");
             Calls.run(x, "slight 0 1; curdle; slight 1 1; keep 2 0; slight 0 0; keep 1 0; pour 1 2; slight 0 1; "
