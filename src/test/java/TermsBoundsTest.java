@@ -428,6 +428,9 @@ public final class TermsBoundsTest {
         // Three hems of 2 are 6, and 7 are wanted: a fourth slight is none.
         fewIs("p20,p20;79", "", 1, NONE, NONE, NONE, NONE);
         fewIs("p20,p20;69", "", 1, 3, 1, 1, 1);
+        // All twelve slights of four people are tried, and none is enough.
+        fewIs("p20,p20,p20,p20;79", "", 1, NONE, NONE, NONE, NONE);
+        fewIs("p10,p10,p10,p20;69", "", 1, 3, 10, 10, 10);
         // Pail 0 alone would set, but not both.
         fewIs("p20,p20;69", "", 3, NONE, NONE, NONE, NONE);
         // By a grudge of 99 nothing is lacking anywhere.
